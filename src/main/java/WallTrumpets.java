@@ -17,6 +17,9 @@ public final class WallTrumpets {
     private static final int MOST_BLASTS = 2 * MOST_PERSONS;
     /** More trumpets than any order can need. */
     private static final int ENDLESS = 1000;
+    private static final int SEEN_SLOTS = 1024, SEEN_TRIES = 32;
+    /** An odd number whose bits are mixed well, to spread marks over the slots. */
+    private static final long SPREAD = 0x9E3779B97F4A7C15L;
 
     private final Text text = new Text();
     private final Plan draft = new Plan();
@@ -76,7 +79,7 @@ public final class WallTrumpets {
             case 4: return now.stands(w) ? 0 : 1;
             case 5: return now.rounded[w];
             case 6: return now.hurt[w];
-            case 7: return plan.kind[w] == DOUBLE && now.falls[w] > 0 ? 1 : 0;
+            case 7: return plan.kind[w] == DOUBLE && now.fell[w] > 0 ? 1 : 0;
             default: return BAD;
         }
     }
@@ -144,7 +147,7 @@ public final class WallTrumpets {
         if (!now.stands(w)) return NO;
         trial.copyFrom(now);
         for (int more = 0; more <= MOST_ROUNDED; more++) {
-            if (trial.falls(w, n) && trial.leansInward(w)) return more;
+            if (trial.wouldFall(w, n) && trial.leansInward(w)) return more;
             trial.goRound(w);
         }
         return NONE;
@@ -177,11 +180,11 @@ public final class WallTrumpets {
         if (isNoPair(w, by)) return BAD;
         if (!now.stands(w) || !now.stands(by)) return NO;
         int holders = now.holdersOf(w);
+        // Held up by none, a wall never comes down with another one: all of them taken is enough.
         int best = holders;
-        for (int set = 0; set < 1 << MOST_PERSONS; set++) {
-            boolean isFewer = set == 0 || Integer.bitCount(set) < Integer.bitCount(best);
-            boolean isLower = Integer.bitCount(set) == Integer.bitCount(best) && set < best;
-            if ((set & ~holders) == 0 && (isFewer || isLower) && standsWithout(set, w, by)) best = set;
+        for (int set = 0; set < holders; set++) {
+            boolean isFewer = Integer.bitCount(set) < Integer.bitCount(best);
+            if (isFewer && (set & ~holders) == 0 && standsWithout(set, w, by)) best = set;
         }
         return best;
     }
@@ -242,7 +245,7 @@ public final class WallTrumpets {
         long choices = 1;
         for (int sounding = 1; sounding <= n; sounding++) {
             choices = choices * (n - sounding + 1) / sounding;
-            if (now.falls(w, sounding)) above += choices * power(10 - x, sounding) * power(x, n - sounding);
+            if (now.wouldFall(w, sounding)) above += choices * power(10 - x, sounding) * power(x, n - sounding);
         }
         long below = power(10, n);
         long shared = greatestShared(above, below);
@@ -457,7 +460,7 @@ public final class WallTrumpets {
         final int[] thick = new int[MOST_PERSONS];
         final int[] rounded = new int[MOST_PERSONS];
         final int[] hurt = new int[MOST_PERSONS];
-        final int[] falls = new int[MOST_PERSONS];
+        final int[] fell = new int[MOST_PERSONS];
         final int[] held = new int[MOST_PERSONS * MOST_PERSONS];
         int stones = 0;
         int days = 0;
@@ -471,7 +474,7 @@ public final class WallTrumpets {
             System.arraycopy(plan.held, 0, held, 0, held.length);
             Arrays.fill(rounded, 0);
             Arrays.fill(hurt, 0);
-            Arrays.fill(falls, 0);
+            Arrays.fill(fell, 0);
             stones = plan.stones;
             days = 0;
         }
@@ -480,14 +483,14 @@ public final class WallTrumpets {
             System.arraycopy(other.thick, 0, thick, 0, MOST_PERSONS);
             System.arraycopy(other.rounded, 0, rounded, 0, MOST_PERSONS);
             System.arraycopy(other.hurt, 0, hurt, 0, MOST_PERSONS);
-            System.arraycopy(other.falls, 0, falls, 0, MOST_PERSONS);
+            System.arraycopy(other.fell, 0, fell, 0, MOST_PERSONS);
             System.arraycopy(other.held, 0, held, 0, held.length);
             stones = other.stones;
             days = other.days;
         }
 
         boolean stands(int w) {
-            return falls[w] < (plan.kind[w] == DOUBLE ? 2 : 1);
+            return fell[w] < (plan.kind[w] == DOUBLE ? 2 : 1);
         }
 
         int heldBy(int a, int b) {
@@ -511,7 +514,7 @@ public final class WallTrumpets {
             rounded[w] = Math.min(rounded[w] + more, MOST_ROUNDED);
         }
 
-        boolean falls(int w, int trumpets) {
+        boolean wouldFall(int w, int trumpets) {
             return trumpets * (rounded[w] + 1) >= thick[w];
         }
 
@@ -521,13 +524,13 @@ public final class WallTrumpets {
 
         int fewestTrumpets(int w) {
             for (int n = 1; n <= MOST_TRUMPETS; n++) {
-                if (falls(w, n)) return n;
+                if (wouldFall(w, n)) return n;
             }
             return NONE;
         }
 
         int blow(int w, int trumpets) {
-            if (falls(w, trumpets)) {
+            if (wouldFall(w, trumpets)) {
                 int way = leansInward(w) ? INWARD : OUTWARD;
                 comeDown(w, way);
                 return way;
@@ -544,7 +547,7 @@ public final class WallTrumpets {
         private void fallWithAll(int w, int way, int depth) {
             // Only a wall that is DOWN pulls others along, so a chain is never longer than the town.
             if (depth > MOST_PERSONS) return;
-            falls[w]++;
+            fell[w]++;
             rounded[w] = 0;
             if (way == INWARD) stones += plan.thick[w];
             if (way == OUTWARD && w + 1 < plan.persons) hurt[w + 1]++;
@@ -653,6 +656,8 @@ public final class WallTrumpets {
         final Town[] towns = new Town[MOST_BLASTS + 1];
         final int[] path = new int[MOST_BLASTS];
         final int[] best = new int[MOST_BLASTS];
+        final long[] seen = new long[SEEN_SLOTS];
+        final int[] seenBy = new int[SEEN_SLOTS];
         int length = 0;
         int fewest = ENDLESS;
 
@@ -664,6 +669,7 @@ public final class WallTrumpets {
         void run(Town now) {
             length = 0;
             fewest = ENDLESS;
+            Arrays.fill(seen, 0);
             towns[0].copyFrom(now);
             goOn(0, 0);
         }
@@ -674,7 +680,7 @@ public final class WallTrumpets {
                 keepBest(depth, trumpets);
                 return;
             }
-            if (depth >= MOST_BLASTS) return;
+            if (depth >= MOST_BLASTS || wasSeen(markOf(town), trumpets)) return;
             for (int w = 0; w < plan.persons; w++) {
                 if (!town.stands(w)) continue;
                 int n = town.fewestTrumpets(w);
@@ -691,6 +697,32 @@ public final class WallTrumpets {
             fewest = trumpets;
             length = depth;
             System.arraycopy(path, 0, best, 0, depth);
+        }
+
+        /** How often each person is rounded need not be told: as now, or 0 behind a fall. */
+        private long markOf(Town town) {
+            long mark = 0;
+            for (int w = 0; w < plan.persons; w++) {
+                mark = mark << 9 | town.fell[w] << 7 | town.thick[w];
+            }
+            return mark;
+        }
+
+        /**
+         * Whether an order ahead came to the same walls by as few trumpets: what follows can then not be better.
+         * A mark that finds no slot is only walked through again.
+         */
+        private boolean wasSeen(long mark, int trumpets) {
+            int slot = (int) (mark * SPREAD >>> 40);
+            for (int i = 0; i < SEEN_TRIES; i++) {
+                int at = (slot + i) % SEEN_SLOTS;
+                if (seen[at] == mark && seenBy[at] <= trumpets) return true;
+                if (seen[at] != mark && seen[at] != 0) continue;
+                seen[at] = mark;
+                seenBy[at] = trumpets;
+                return false;
+            }
+            return false;
         }
     }
 }
