@@ -2,7 +2,9 @@ import java.util.Random;
 
 /** Runs of drawn calls on the class and on the slow model, which must answer alike. */
 public final class ModelTest {
-    private static final int RUNS = 1500, CALLS = 300;
+    /** With what is asked behind it, a run stays near the 512 calls that an object is used for. */
+    private static final int RUNS = 2000, CALLS = 250;
+    private static final int TOWNS_OF_DOUBLES = 30;
 
     private final Random draw;
     private final WallTrumpets x = new WallTrumpets();
@@ -17,7 +19,26 @@ public final class ModelTest {
 
     public static void main(String[] args) {
         for (int run = 0; run < RUNS; run++) new ModelTest(run).play();
+        for (int run = 0; run < TOWNS_OF_DOUBLES; run++) new ModelTest(run).playDoubles();
         Due.end();
+    }
+
+    // The most orders that there can be: too dear for the model to be asked often.
+    private void playDoubles() {
+        StringBuilder s = new StringBuilder();
+        for (int i = 0; i < 5; i++) s.append("w3,").append(1 + draw.nextInt(18)).append(',').append(draw.nextInt(8)).append(';');
+        for (int i = draw.nextInt(15); i > 0; i--) {
+            int a = draw.nextInt(5);
+            s.append('h').append(a).append(',').append((a + 1 + draw.nextInt(4)) % 5).append(',').append(1 + draw.nextInt(10)).append(';');
+        }
+        write(s.toString());
+        due("lay of " + s, x.lay(), m.lay());
+        for (int i = draw.nextInt(20); i > 0; i--) {
+            int w = w();
+            due("round " + w, x.round(w), m.round(w));
+        }
+        int[] want = m.wholeOrder();
+        for (int k = -1; k < 10; k++) due("order " + k + " of " + s, x.order(k), want[k + 1]);
     }
 
     private void due(String name, int got, int want) {

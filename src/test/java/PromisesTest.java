@@ -540,9 +540,12 @@ public final class PromisesTest {
         due("18: fell once", x.save(1, 0), 1);
         due("18: nothing changes", x.holds(0, 1), 40);
         x.blast(0, 5);
-        due("18: down", x.save(1, 0), NO);
-        due("18: down", x.save(0, 1), NO);
+        due("18: both are down", x.save(1, 0), NO);
         due("18: BAD ahead of NO", x.save(0, 0), BAD);
+        x = Due.laid("w0,9,0;w0,5,0;");
+        x.blast(0, 9);
+        due("18: the other one is down", x.save(1, 0), NO);
+        due("18: the first one is down", x.save(0, 1), NO);
     }
 
     private static void built() {
@@ -654,6 +657,19 @@ public final class PromisesTest {
         due("24: nothing to undo", x.count(7), 0);
         x.year(9999, 60, 0);
         due("24: nothing changes", x.wall(0, 3), 9);
+        // z 15 of two walls: k 0 draws 35404, 5 trumpets at 1; k 1 55097, 1 is rounded; k 2 2116, 7 trumpets at 0.
+        x = Due.laid("w0,7,1;w1,6,0;s1;");
+        due("24: 5 are less than 6", x.year(15, 1, 0), 0);
+        due("24: 0 not yet", x.year(15, 2, 2), 0);
+        due("24: 0 is down", x.year(15, 3, 0), 1);
+        due("24: outward", x.year(15, 3, 1), 1);
+        due("24: hurt", x.year(15, 3, 2), 1);
+        x = Due.laid("w0,9,0;w0,5,0;s1;");
+        due("24: 1 is down", x.year(15, 1, 0), 1);
+        due("24: inward", x.year(15, 1, 1), 6);
+        due("24: what is down is let be", x.year(15, 3, 0), 1);
+        due("24: two days ahead of the third draw", Due.laid("w1,5,0;w0,9,0;").year(15, 3, 0), 1);
+        due("24: two days ahead of the third draw", Due.laid("w1,6,0;w0,9,0;").year(15, 3, 0), 0);
     }
 
     private static void keep() {

@@ -305,13 +305,20 @@ final class Model {
         }
     }
 
-    int order(int k) {
-        if (k < -1 || k > 9) return BAD;
+    /** The answers for k from -1 to 9. */
+    int[] wholeOrder() {
         bestOrder = null;
         orders(now, new int[0], 0);
-        if (bestOrder == null) return NONE;
-        if (k == -1) return bestSum;
-        return k < bestOrder.length ? bestOrder[k] : NONE;
+        int[] all = new int[11];
+        Arrays.fill(all, NONE);
+        if (bestOrder == null) return all;
+        all[0] = bestSum;
+        System.arraycopy(bestOrder, 0, all, 1, bestOrder.length);
+        return all;
+    }
+
+    int order(int k) {
+        return k < -1 || k > 9 ? BAD : wholeOrder()[k + 1];
     }
 
     int save(int w, int by) {
