@@ -21,6 +21,7 @@ public final class QuestionsBoundsTest {
         orderOfSeveralTheFirst();
         orderOfDoubleOnes();
         orderEachAsRoundedNow();
+        orderOfTownsMuchAlike();
         orderNone();
         saveNoneToo();
         saveTheFewest();
@@ -243,6 +244,18 @@ public final class QuestionsBoundsTest {
             orderIs("rounded " + r, x, (9 + r) / (r + 1) + 8, 0, 1);
             due("nothing changes", x.wall(0, 5), r);
         }
+    }
+
+    // "that of fewest TRUMPETS in sum, of several the first": also where towns on the way are nearly alike, which the
+    // table of towns that were come by must keep apart.
+    private static void orderOfTownsMuchAlike() {
+        WallTrumpets x = rounded(Script.after("text w1,60,0;", "lay", "pass 4"), 0, 7);
+        orderIs("thick by 64", x, 8, 0);
+        x = rounded(Script.after("text w0,1,0;w1,60,0;w0,1,0;", "lay", "pass 4"), 1, 7);
+        orderIs("thick by 64 against down", x, 10, 0, 1, 2);
+        // 0: 9 and 5; 2: 1 and 1, by which 1 is thick by 1; 1: 1, then it is thick by 2; 3: 8 and 5; 1 by 1 less: 1.
+        x = Due.laid("w3,9,0;w3,3,0;w3,1,0;w3,8,0;h3,1,1;h2,1,2;");
+        orderIs("1 as soon as it is thick by 1", x, 31, 0, 0, 2, 2, 1, 3, 3, 1);
     }
 
     // "such that all are DOWN .. none"
